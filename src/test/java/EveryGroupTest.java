@@ -1,0 +1,122 @@
+import java.util.ArrayList;
+import java.util.HashSet;
+import java.util.List;
+import java.util.Set;
+import java.util.TreeSet;
+
+/** Promises 5 to 18 and 24 for all ELEMENTS that 0 to 3 GENERATORS of 1 to 5 POINTS can make. */
+public final class EveryGroupTest {
+    private static final Due DUE = new Due();
+
+    public static void main(String[] args) {
+        int groups = 0;
+        for (int n = 1; n <= 5; n++) {
+            List<Integer> all = new ArrayList<>();
+            collect("", n, all);
+            Set<TreeSet<String>> known = new HashSet<>();
+            List<List<Integer>> fresh = new ArrayList<>();
+            fresh.add(new ArrayList<>());
+            known.add(Oracle.closure(n, fresh.get(0)));
+            while (!fresh.isEmpty()) {
+                List<List<Integer>> next = new ArrayList<>();
+                for (List<Integer> generators : fresh) {
+                    compare(n, generators);
+                    groups++;
+                    if (generators.size() == 3) {
+                        continue;
+                    }
+                    for (int g : all) {
+                        List<Integer> more = new ArrayList<>(generators);
+                        more.add(g);
+                        if (known.add(Oracle.closure(n, more))) {
+                            next.add(more);
+                        }
+                    }
+                }
+                fresh = next;
+            }
+        }
+        // as many subgroups as there are of all moves of 1, 2, 3, 4 and 5 points
+        DUE.is("groups", groups, 1 + 2 + 6 + 30 + 156);
+        DUE.end("EveryGroupTest");
+    }
+
+    private static void collect(String begun, int n, List<Integer> all) {
+        if (begun.length() == n) {
+            all.add(Integer.parseInt(begun));
+        }
+        for (int p = 0; p < n; p++) {
+            if (begun.indexOf('0' + p) < 0) {
+                collect(begun + p, n, all);
+            }
+        }
+    }
+
+    private static void compare(int n, List<Integer> generators) {
+        String at = n + " " + generators + " ";
+        RootedClasses x = new RootedClasses();
+        x.points(n);
+        for (int g : generators) {
+            x.moves(g);
+        }
+        Oracle o = Oracle.of(n, generators);
+        for (int what = 0; what < 8; what++) {
+            DUE.is(at + "of " + what, x.of(what), o.whole(what));
+        }
+        compareElements(at, x, o);
+        for (int i = 0; i < o.sorts; i++) {
+            for (int what = 0; what < 6; what++) {
+                DUE.is(at + "sort " + i + " " + what, x.sort(i, what), o.sortAnswer(i, what));
+            }
+            for (int j = 0; j < o.sorts; j++) {
+                for (int k = 0; k < o.sorts; k++) {
+                    DUE.is(at + "times " + i + " " + j + " " + k, x.times(i, j, k), o.times[i][j][k]);
+                }
+            }
+        }
+        for (int r = 0; r < o.sorts; r++) {
+            compareRow(at + "row " + r + " ", x, o, r);
+        }
+        int[] told = {0, o.sorts * (o.sorts - o.whole(7)), 0, 0, n, generators.size(), 1 + generators.size()};
+        DUE.is(at + "digest", x.digest(), o.digest(told));
+    }
+
+    private static void compareElements(String at, RootedClasses x, Oracle o) {
+        int order = o.elements.size();
+        for (int i = 0; i < order; i++) {
+            for (int what = 0; what < 4; what++) {
+                DUE.is(at + "element " + i + " " + what, x.element(i, what), o.elementAnswer(i, what));
+            }
+            for (int j = 0; j < order; j += order > 30 ? 7 : 1) {
+                DUE.is(at + "product " + i + " " + j, x.product(i, j), o.product(i, j));
+            }
+        }
+    }
+
+    private static void compareRow(String at, RootedClasses x, Oracle o, int r) {
+        DUE.is(at + "degree", x.degree(r), o.degree[r]);
+        DUE.is(at + "mirror", x.mirror(r), o.mirror(r));
+        DUE.is(at + "blind", x.blind(r), o.blind(r));
+        DUE.is(at + "natural", x.natural(r), o.meet(o.left, o.value[r]));
+        for (int i = 0; i < o.sorts; i++) {
+            DUE.is(at + "value " + i, x.value(r, i), o.value[r][i]);
+            DUE.is(at + "spread " + i, x.spread(r, i), o.spread[r][i]);
+            int together = 0;
+            for (int m = 0; m < o.turn[i]; m++) {
+                DUE.is(at + "part " + i + " " + m, x.part(r, i, m), o.part(r, i, m));
+                together += x.part(r, i, m);
+            }
+            DUE.is(at + "parts together", together, o.degree[r]);
+        }
+        for (int s = 0; s < o.sorts; s++) {
+            int together = 0;
+            for (int t = 0; t < o.sorts; t++) {
+                int often = x.within(r, s, t);
+                DUE.is(at + "within " + s + " " + t, often, o.meet(o.rowProduct(r, s), o.value[t]));
+                together += often * o.degree[t];
+            }
+            DUE.is(at + "within together", together, o.degree[r] * o.degree[s]);
+            DUE.is(at + "turned " + s, x.turned(r, s), o.degree[s] == 1 ? o.turned(r, s) : RootedClasses.NO);
+        }
+    }
+}
