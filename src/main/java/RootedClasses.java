@@ -11,6 +11,8 @@ public final class RootedClasses {
     private static final int MOST_POINTS = 5;
     private static final int MOST_GENERATORS = 3;
     private static final int MOST_ELEMENTS = 120;
+    // Four figures of 0 to 4: the fifth is what they leave.
+    private static final int KEYS = 625;
     // The next three are what five points allow; the test EveryGroup goes through all of them.
     private static final int MOST_SORTS = 7;
     private static final int MOST_TURN = 6;
@@ -572,7 +574,10 @@ public final class RootedClasses {
         }
     }
 
-    /** All ELEMENTS in order. A MOVE's rank is its place among all MOVES of as many POINTS. */
+    /**
+     * All ELEMENTS in order. A MOVE is found by its key, a number of all its figures but the last;
+     * of two MOVES the one with the lesser number has the lesser key.
+     */
     private static final class Elements {
         int order = 0;
         final int[] codes = new int[MOST_ELEMENTS];
@@ -580,8 +585,8 @@ public final class RootedClasses {
         private int points = 1;
         private final int[] figures = new int[MOST_ELEMENTS * MOST_POINTS];
         private final int[] generators = new int[MOST_GENERATORS * MOST_POINTS];
-        private final int[] codeAtRank = new int[MOST_ELEMENTS];
-        private final int[] placeAtRank = new int[MOST_ELEMENTS];
+        private final int[] codeAtKey = new int[KEYS];
+        private final int[] placeAtKey = new int[KEYS];
         private final int[] made = new int[MOST_POINTS];
 
         void build(Setting setting) {
@@ -601,6 +606,16 @@ public final class RootedClasses {
             return placeOfMade();
         }
 
+        /** z x (INVERSE of z). */
+        int movedBy(int z, int x) {
+            int inverse = inverses[z];
+            for (int p = 0; p < points; p++) {
+                int q = figures[x * MOST_POINTS + figures[z * MOST_POINTS + p]];
+                made[p] = figures[inverse * MOST_POINTS + q];
+            }
+            return placeOfMade();
+        }
+
         int pointsLeft(int x) {
             int left = 0;
             for (int p = 0; p < points; p++) {
@@ -613,7 +628,7 @@ public final class RootedClasses {
 
         /** No INVERSES are needed here: each is one of the POWERS. */
         private void makeAll(int generatorCount) {
-            Arrays.fill(codeAtRank, NONE);
+            Arrays.fill(codeAtKey, NONE);
             order = 0;
             for (int p = 0; p < points; p++) {
                 made[p] = p;
@@ -630,8 +645,8 @@ public final class RootedClasses {
         }
 
         private void addMade() {
-            int rank = rankOfMade();
-            if (!isBelow(rank, MOST_ELEMENTS) || codeAtRank[rank] != NONE || order >= MOST_ELEMENTS) {
+            int key = keyOfMade();
+            if (!isBelow(key, KEYS) || codeAtKey[key] != NONE || order >= MOST_ELEMENTS) {
                 return;
             }
             int code = 0;
@@ -639,17 +654,16 @@ public final class RootedClasses {
                 figures[order * MOST_POINTS + p] = made[p];
                 code = 10 * code + made[p];
             }
-            codeAtRank[rank] = code;
+            codeAtKey[key] = code;
             order++;
         }
 
         private void putInOrder() {
             int place = 0;
-            for (int rank = 0; rank < MOST_ELEMENTS; rank++) {
-                placeAtRank[rank] = 0;
-                if (codeAtRank[rank] != NONE) {
-                    placeAtRank[rank] = place;
-                    codes[place] = codeAtRank[rank];
+            for (int key = 0; key < KEYS && place < order; key++) {
+                if (codeAtKey[key] != NONE) {
+                    placeAtKey[key] = place;
+                    codes[place] = codeAtKey[key];
                     spell(codes[place], figures, place * MOST_POINTS);
                     place++;
                 }
@@ -673,23 +687,18 @@ public final class RootedClasses {
             }
         }
 
+        /** The MOVE that was made is an ELEMENT: their products are ELEMENTS, too. */
         private int placeOfMade() {
-            int rank = rankOfMade();
-            return isBelow(rank, MOST_ELEMENTS) ? placeAtRank[rank] : 0;
+            int key = keyOfMade();
+            return isBelow(key, KEYS) ? placeAtKey[key] : 0;
         }
 
-        private int rankOfMade() {
-            int rank = 0;
-            for (int p = 0; p < points; p++) {
-                int lesserBehind = 0;
-                for (int q = p + 1; q < points; q++) {
-                    if (made[q] < made[p]) {
-                        lesserBehind++;
-                    }
-                }
-                rank = rank * (points - p) + lesserBehind;
+        private int keyOfMade() {
+            int key = 0;
+            for (int p = 0; p < points - 1; p++) {
+                key = MOST_POINTS * key + made[p];
             }
-            return rank;
+            return key;
         }
     }
 
@@ -754,7 +763,7 @@ public final class RootedClasses {
         private int gather(int x, int sort) {
             int size = 0;
             for (int z = 0; z < elements.order; z++) {
-                int like = elements.multiplied(elements.multiplied(z, x), elements.inverses[z]);
+                int like = elements.movedBy(z, x);
                 if (sortOf[like] == NONE) {
                     sortOf[like] = sort;
                     size++;
@@ -812,7 +821,7 @@ public final class RootedClasses {
             root = powerOf(leastMaker(), (p - 1) / step);
             rootPowers[0] = 1;
             for (int e = 1; e < step && e < MOST_PRIME; e++) {
-                rootPowers[e] = rootPowers[e - 1] * root % p;
+                rootPowers[e] = left(rootPowers[e - 1] * root);
             }
         }
 
@@ -840,14 +849,14 @@ public final class RootedClasses {
             over[0] = 0;
             over[1] = 1;
             for (int a = 2; a < p; a++) {
-                over[a] = (p - p / a) * over[p % a] % p;
+                over[a] = left((p - p / a) * over[p % a]);
             }
         }
 
         private int powerOf(int base, int n) {
             int power = 1;
             for (int e = 0; e < n; e++) {
-                power = power * base % p;
+                power = left(power * base);
             }
             return power;
         }
@@ -857,7 +866,7 @@ public final class RootedClasses {
                 int power = g;
                 int turn = 1;
                 while (power != 1 && turn < p) {
-                    power = power * g % p;
+                    power = left(power * g);
                     turn++;
                 }
                 if (turn == p - 1) {
@@ -1018,10 +1027,10 @@ public final class RootedClasses {
                     int[] line = table[found];
                     table[found] = table[first + rank];
                     table[first + rank] = line;
-                    scale(line, line[c], columns, prime);
+                    scale(line, c, columns, prime);
                     for (int r = first; r < first + size; r++) {
                         if (r != first + rank) {
-                            subtract(table[r], line, table[r][c], columns, prime);
+                            clearColumn(table[r], line, c, columns, prime);
                         }
                     }
                     pivots[rank] = c;
@@ -1040,17 +1049,20 @@ public final class RootedClasses {
             return NONE;
         }
 
-        private static void scale(int[] line, int by, int columns, Prime prime) {
-            int factor = prime.over[by];
-            for (int c = 0; c < columns && factor != 1; c++) {
-                line[c] = line[c] * factor % prime.p;
+        // Left of its pivot a line is 0 already, so that both begin there.
+
+        private static void scale(int[] line, int pivot, int columns, Prime prime) {
+            int factor = prime.over[prime.left(line[pivot])];
+            for (int c = pivot; c < columns && factor != 1; c++) {
+                line[c] = prime.left(line[c] * factor);
             }
         }
 
-        private static void subtract(int[] from, int[] line, int often, int columns, Prime prime) {
-            int factor = prime.p - often;
-            for (int c = 0; c < columns && often != 0; c++) {
-                from[c] = (from[c] + line[c] * factor) % prime.p;
+        private static void clearColumn(int[] other, int[] line, int pivot, int columns, Prime prime) {
+            int p = prime.p;
+            int factor = p - other[pivot];
+            for (int c = pivot; c < columns && factor != p && p > 0; c++) {
+                other[c] = (other[c] + line[c] * factor) % p;
             }
         }
     }
