@@ -13,7 +13,7 @@ public final class RootedClasses {
     private static final int MOST_ELEMENTS = 120;
     // Four figures of 0 to 4: the fifth is what they leave.
     private static final int KEYS = 625;
-    // The next three are what five points allow; the test EveryGroup goes through all of them.
+    // The next three are what five points allow; EveryGroupTest goes through all groups.
     private static final int MOST_SORTS = 7;
     private static final int MOST_TURN = 6;
     private static final int MOST_PRIME = 61;
@@ -300,7 +300,9 @@ public final class RootedClasses {
 
     private void learnSorts() {
         if (!sortsKnown) {
-            rows.sorts.build(now);
+            rows.sorts.elements.build(now);
+            rows.sorts.takeApart();
+            rows.sorts.describe();
             rows.prime.choose(rows.sorts.elements.order, rows.sorts.exponent);
             sortsKnown = true;
         }
@@ -720,9 +722,19 @@ public final class RootedClasses {
             return (i * MOST_SORTS + j) * MOST_SORTS + k;
         }
 
-        void build(Setting setting) {
-            elements.build(setting);
-            takeApart();
+        void takeApart() {
+            Arrays.fill(sortOf, NONE);
+            count = 0;
+            for (int x = 0; x < elements.order; x++) {
+                if (sortOf[x] == NONE && count < MOST_SORTS) {
+                    leasts[count] = x;
+                    sizes[count] = gather(x, count);
+                    count++;
+                }
+            }
+        }
+
+        void describe() {
             exponent = 1;
             for (int i = 0; i < count; i++) {
                 inverses[i] = sortOf[elements.inverses[leasts[i]]];
@@ -746,18 +758,6 @@ public final class RootedClasses {
         /** The SORT of j-th POWERS of a SORT's ELEMENTS, j being 0 or above. */
         int powerSort(int i, int j) {
             return turns[i] > 0 ? powers[i * MOST_TURN + j % turns[i]] : 0;
-        }
-
-        private void takeApart() {
-            Arrays.fill(sortOf, NONE);
-            count = 0;
-            for (int x = 0; x < elements.order; x++) {
-                if (sortOf[x] == NONE && count < MOST_SORTS) {
-                    leasts[count] = x;
-                    sizes[count] = gather(x, count);
-                    count++;
-                }
-            }
         }
 
         private int gather(int x, int sort) {
@@ -1014,7 +1014,7 @@ public final class RootedClasses {
                 for (int b = 0; b < size; b++) {
                     sum += mix[b] * lines[first + b][k];
                 }
-                into[k] = prime.left(sum);
+                into[k] = prime.p > 0 ? sum % prime.p : 0;
             }
         }
 
@@ -1027,10 +1027,10 @@ public final class RootedClasses {
                     int[] line = table[found];
                     table[found] = table[first + rank];
                     table[first + rank] = line;
-                    scale(line, c, columns, prime);
+                    scale(line, c, columns, prime.over[prime.left(line[c])], prime.p);
                     for (int r = first; r < first + size; r++) {
                         if (r != first + rank) {
-                            clearColumn(table[r], line, c, columns, prime);
+                            clearColumn(table[r], line, c, columns, prime.p);
                         }
                     }
                     pivots[rank] = c;
@@ -1051,15 +1051,13 @@ public final class RootedClasses {
 
         // Left of its pivot a line is 0 already, so that both begin there.
 
-        private static void scale(int[] line, int pivot, int columns, Prime prime) {
-            int factor = prime.over[prime.left(line[pivot])];
-            for (int c = pivot; c < columns && factor != 1; c++) {
-                line[c] = prime.left(line[c] * factor);
+        private static void scale(int[] line, int pivot, int columns, int factor, int p) {
+            for (int c = pivot; c < columns && factor != 1 && p > 0; c++) {
+                line[c] = line[c] * factor % p;
             }
         }
 
-        private static void clearColumn(int[] other, int[] line, int pivot, int columns, Prime prime) {
-            int p = prime.p;
+        private static void clearColumn(int[] other, int[] line, int pivot, int columns, int p) {
             int factor = p - other[pivot];
             for (int c = pivot; c < columns && factor != p && p > 0; c++) {
                 other[c] = (other[c] + line[c] * factor) % p;

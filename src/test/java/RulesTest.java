@@ -1,3 +1,5 @@
+import java.io.PrintWriter;
+import java.io.StringWriter;
 import java.lang.management.ManagementFactory;
 import java.lang.reflect.Constructor;
 import java.lang.reflect.Field;
@@ -7,10 +9,14 @@ import java.nio.file.Files;
 import java.nio.file.Path;
 import java.util.ArrayList;
 import java.util.Arrays;
+import java.util.HashMap;
 import java.util.List;
+import java.util.Map;
+import java.util.Set;
 import java.util.TreeSet;
 import java.util.regex.Matcher;
 import java.util.regex.Pattern;
+import java.util.spi.ToolProvider;
 
 /** The face of the class, and those rules of LANGUAGE.md that can be seen from outside. */
 public final class RulesTest {
@@ -26,6 +32,7 @@ public final class RulesTest {
         classesInside();
         words();
         room();
+        depth();
         DUE.end("RulesTest");
     }
 
@@ -108,6 +115,53 @@ public final class RulesTest {
                 yes("the method up to line " + (k + 1) + " is short", k - from < 60 || lines[k].startsWith("    }"));
             }
         }
+    }
+
+    /** Rule 11: no chain of calls, the public one at its head, is longer than eight. */
+    private static void depth() {
+        List<String> files = new ArrayList<>(List.of("-p", "-c", "-cp", System.getProperty("java.class.path"), "RootedClasses"));
+        for (Class<?> c : RootedClasses.class.getDeclaredClasses()) {
+            files.add(c.getName());
+        }
+        StringWriter told = new StringWriter();
+        ToolProvider javap = ToolProvider.findFirst("javap").orElse(null);
+        if (javap == null) {
+            return;
+        }
+        javap.run(new PrintWriter(told), new PrintWriter(told), files.toArray(new String[0]));
+        Map<String, Set<String>> calls = new HashMap<>();
+        String in = "";
+        String from = "";
+        Pattern head = Pattern.compile("^  \\S.*?([\\w$]+)\\(.*\\);$");
+        Pattern call = Pattern.compile("Method (?:([\\w$]+)\\.)?\"?([\\w<>]+)\"?:\\(");
+        for (String line : told.toString().split("\\R")) {
+            Matcher begins = Pattern.compile("class (RootedClasses[\\w$]*).* \\{$").matcher(line);
+            Matcher heads = head.matcher(line);
+            Matcher goes = call.matcher(line);
+            if (begins.find()) {
+                in = begins.group(1);
+            } else if (heads.find()) {
+                from = in + "." + (heads.group(1).equals(in) ? "<init>" : heads.group(1));
+                calls.put(from, new TreeSet<>());
+            } else if (goes.find() && calls.containsKey(from)) {
+                calls.get(from).add((goes.group(1) == null ? in : goes.group(1)) + "." + goes.group(2));
+            }
+        }
+        yes("calls are found", calls.containsKey("RootedClasses.digest") && !calls.get("RootedClasses.digest").isEmpty());
+        for (String name : calls.keySet()) {
+            int longest = longest(calls, name, 0);
+            yes(name + " goes " + longest + " deep", longest <= 8);
+        }
+    }
+
+    private static int longest(Map<String, Set<String>> calls, String name, int above) {
+        int longest = above + 1;
+        if (above < 20 && calls.containsKey(name)) {
+            for (String next : calls.get(name)) {
+                longest = Math.max(longest, longest(calls, next, above + 1));
+            }
+        }
+        return longest;
     }
 
     /** All calls live in one room: what 512 of the dearest calls make must stay small. */
