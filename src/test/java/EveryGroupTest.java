@@ -7,6 +7,38 @@ import java.util.TreeSet;
 /** Promises 5 to 18 and 24 for all ELEMENTS that 0 to 3 GENERATORS of 1 to 5 POINTS can make. */
 public final class EveryGroupTest {
     private static final Due DUE = new Due();
+    private static final int CALLS = 512;
+
+    /** Nothing is promised behind an object's 512th call: another takes its place in time. */
+    private static final class Relay {
+        private final int points;
+        private final List<Integer> generators;
+        private RootedClasses now;
+        private int calls = CALLS;
+
+        Relay(int points, List<Integer> generators) {
+            this.points = points;
+            this.generators = generators;
+        }
+
+        RootedClasses next() {
+            if (calls >= CALLS) {
+                now = made();
+                calls = 1 + generators.size();
+            }
+            calls++;
+            return now;
+        }
+
+        RootedClasses made() {
+            RootedClasses x = new RootedClasses();
+            x.points(points);
+            for (int g : generators) {
+                x.moves(g);
+            }
+            return x;
+        }
+    }
 
     public static void main(String[] args) {
         int groups = 0;
@@ -54,69 +86,66 @@ public final class EveryGroupTest {
 
     private static void compare(int n, List<Integer> generators) {
         String at = n + " " + generators + " ";
-        RootedClasses x = new RootedClasses();
-        x.points(n);
-        for (int g : generators) {
-            x.moves(g);
-        }
+        Relay x = new Relay(n, generators);
         Oracle o = Oracle.of(n, generators);
         for (int what = 0; what < 8; what++) {
-            DUE.is(at + "of " + what, x.of(what), o.whole(what));
+            DUE.is(at + "of " + what, x.next().of(what), o.whole(what));
         }
         compareElements(at, x, o);
         for (int i = 0; i < o.sorts; i++) {
             for (int what = 0; what < 6; what++) {
-                DUE.is(at + "sort " + i + " " + what, x.sort(i, what), o.sortAnswer(i, what));
+                DUE.is(at + "sort " + i + " " + what, x.next().sort(i, what), o.sortAnswer(i, what));
             }
             for (int j = 0; j < o.sorts; j++) {
                 for (int k = 0; k < o.sorts; k++) {
-                    DUE.is(at + "times " + i + " " + j + " " + k, x.times(i, j, k), o.times[i][j][k]);
+                    DUE.is(at + "times " + i + " " + j + " " + k, x.next().times(i, j, k), o.times[i][j][k]);
                 }
             }
         }
         for (int r = 0; r < o.sorts; r++) {
             compareRow(at + "row " + r + " ", x, o, r);
         }
-        int[] told = {0, o.sorts * (o.sorts - o.whole(7)), 0, 0, n, generators.size(), 1 + generators.size()};
-        DUE.is(at + "digest", x.digest(), o.digest(told));
+        int[] told = {0, 0, 0, 0, n, generators.size(), 1 + generators.size()};
+        DUE.is(at + "digest", x.made().digest(), o.digest(told));
     }
 
-    private static void compareElements(String at, RootedClasses x, Oracle o) {
+    private static void compareElements(String at, Relay x, Oracle o) {
         int order = o.elements.size();
         for (int i = 0; i < order; i++) {
             for (int what = 0; what < 4; what++) {
-                DUE.is(at + "element " + i + " " + what, x.element(i, what), o.elementAnswer(i, what));
+                DUE.is(at + "element " + i + " " + what, x.next().element(i, what), o.elementAnswer(i, what));
             }
             for (int j = 0; j < order; j += order > 30 ? 7 : 1) {
-                DUE.is(at + "product " + i + " " + j, x.product(i, j), o.product(i, j));
+                DUE.is(at + "product " + i + " " + j, x.next().product(i, j), o.product(i, j));
             }
         }
     }
 
-    private static void compareRow(String at, RootedClasses x, Oracle o, int r) {
-        DUE.is(at + "degree", x.degree(r), o.degree[r]);
-        DUE.is(at + "mirror", x.mirror(r), o.mirror(r));
-        DUE.is(at + "blind", x.blind(r), o.blind(r));
-        DUE.is(at + "natural", x.natural(r), o.meet(o.left, o.value[r]));
+    private static void compareRow(String at, Relay x, Oracle o, int r) {
+        DUE.is(at + "degree", x.next().degree(r), o.degree[r]);
+        DUE.is(at + "mirror", x.next().mirror(r), o.mirror(r));
+        DUE.is(at + "blind", x.next().blind(r), o.blind(r));
+        DUE.is(at + "natural", x.next().natural(r), o.meet(o.left, o.value[r]));
         for (int i = 0; i < o.sorts; i++) {
-            DUE.is(at + "value " + i, x.value(r, i), o.value[r][i]);
-            DUE.is(at + "spread " + i, x.spread(r, i), o.spread[r][i]);
+            DUE.is(at + "value " + i, x.next().value(r, i), o.value[r][i]);
+            DUE.is(at + "spread " + i, x.next().spread(r, i), o.spread[r][i]);
             int together = 0;
             for (int m = 0; m < o.turn[i]; m++) {
-                DUE.is(at + "part " + i + " " + m, x.part(r, i, m), o.part(r, i, m));
-                together += x.part(r, i, m);
+                int often = x.next().part(r, i, m);
+                DUE.is(at + "part " + i + " " + m, often, o.part(r, i, m));
+                together += often;
             }
             DUE.is(at + "parts together", together, o.degree[r]);
         }
         for (int s = 0; s < o.sorts; s++) {
             int together = 0;
             for (int t = 0; t < o.sorts; t++) {
-                int often = x.within(r, s, t);
+                int often = x.next().within(r, s, t);
                 DUE.is(at + "within " + s + " " + t, often, o.meet(o.rowProduct(r, s), o.value[t]));
                 together += often * o.degree[t];
             }
             DUE.is(at + "within together", together, o.degree[r] * o.degree[s]);
-            DUE.is(at + "turned " + s, x.turned(r, s), o.degree[s] == 1 ? o.turned(r, s) : RootedClasses.NO);
+            DUE.is(at + "turned " + s, x.next().turned(r, s), o.degree[s] == 1 ? o.turned(r, s) : RootedClasses.NO);
         }
     }
 }

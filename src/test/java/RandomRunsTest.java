@@ -7,6 +7,8 @@ public final class RandomRunsTest {
     private static final Due DUE = new Due();
     private static final int BAD = RootedClasses.BAD, NO = RootedClasses.NO, FULL = RootedClasses.FULL;
 
+    private static final int MOST_CALLS = 512;
+
     private final RootedClasses x = new RootedClasses();
     private final Random random;
     private int points = 4;
@@ -24,8 +26,13 @@ public final class RandomRunsTest {
         for (long seed = 1; seed <= 400; seed++) {
             RandomRunsTest run = new RandomRunsTest(seed);
             int calls = 0;
-            while (calls < 512) {
+            // a step is 83 calls at most: a text of up to 80 bytes, cleared before, read behind
+            while (calls < MOST_CALLS - 83) {
                 calls += run.step("seed " + seed + " call " + calls + " ");
+            }
+            while (calls < MOST_CALLS) {
+                run.asksMoves("seed " + seed + " call " + calls + " ");
+                calls++;
             }
         }
         DUE.end("RandomRunsTest");
