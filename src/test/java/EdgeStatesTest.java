@@ -156,9 +156,9 @@ public final class EdgeStatesTest {
             DUE.is("the first is lost", x.back(), NO);
             told("the first is lost", x, 0, 1, 0, 3, 4, 1, 0);
         }
-        TWINS.refused("refused with five, none is lost", Place.all()[4].before, x -> x.points(6), BAD);
-        TWINS.refused("refused with five, none is lost", Place.all()[4].before, x -> x.moves(1234), FULL);
-        TWINS.refused("refused with five, none is lost", Place.all()[4].before, x -> x.drops(3), BAD);
+        TWINS.refused("refused with five, none is lost", Place.full().before, x -> x.points(6), BAD);
+        TWINS.refused("refused with five, none is lost", Place.full().before, x -> x.moves(1234), FULL);
+        TWINS.refused("refused with five, none is lost", Place.full().before, x -> x.drops(3), BAD);
     }
 
     // "A STATE back": N and GENERATORS, in their order
@@ -273,12 +273,9 @@ public final class EdgeStatesTest {
             for (int what : new int[] {-1, 7, 8, LEAST, GREATEST}) {
                 TWINS.refused(at.name + ": told " + what, at.before, x -> x.told(what), BAD);
             }
-            int states = Math.min(5, at.generators.size() + (at.points == 4 ? 0 : 1));
-            int[] due = at.order == 120 ? new int[] {1, 1, 2, 80, 5, 3, 5}
-                : new int[] {0, at.order == 24 ? 1 : 0, 0, at.made().told(3), at.points, at.generators.size(), states};
             for (int what = 0; what < 7; what++) {
                 int w = what;
-                TWINS.harmless(at.name + ": told " + w, at.before, x -> x.told(w), due[w]);
+                TWINS.harmless(at.name + ": told " + w, at.before, x -> x.told(w), at.told[w]);
             }
         }
         RootedClasses x = new RootedClasses();
@@ -324,12 +321,7 @@ public final class EdgeStatesTest {
     // "h = 2447; then h = 31 h + v for each v: told(0) to told(6); of(0) to of(7); .."
     private static void digestEdges() {
         for (Place at : Place.all()) {
-            RootedClasses x = at.made();
-            int[] all = new int[7];
-            for (int what = 0; what < 7; what++) {
-                all[what] = x.told(what);
-            }
-            long due = at.oracle().digest(all);
+            long due = at.oracle().digest(at.told);
             TWINS.harmless(at.name + ": digest", at.before, RootedClasses::digest, due);
             DUE.is(at.name + ": digest as the first question", at.made().digest(), due);
         }

@@ -6,17 +6,18 @@ final class Place {
     final int points;
     final List<Integer> generators;
     final int order, sorts;
-    final int[] turns, degrees;
+    final int[] turns, degrees, told;
     final Twins.Before before;
 
-    private Place(String name, int points, List<Integer> generators, int order, int[] turns, int[] degrees, Twins.Before before) {
+    private Place(String name, List<Integer> generators, int order, int[] turns, int[] degrees, int[] told, Twins.Before before) {
         this.name = name;
-        this.points = points;
+        this.points = told[4];
         this.generators = generators;
         this.order = order;
         this.sorts = turns.length;
         this.turns = turns;
         this.degrees = degrees;
+        this.told = told;
         this.before = before;
     }
 
@@ -38,25 +39,47 @@ final class Place {
 
     static Place[] all() {
         return new Place[] {
-            new Place("a new object", 4, List.of(), 1, new int[] {1}, new int[] {1}, x -> { }),
-            new Place("one point", 1, List.of(0), 1, new int[] {1}, new int[] {1}, x -> {
+            new Place("a new object", List.of(), 1, new int[] {1}, new int[] {1}, new int[] {0, 0, 0, 0, 4, 0, 0}, x -> { }),
+            new Place("one point", List.of(0), 1, new int[] {1}, new int[] {1}, new int[] {0, 0, 0, 2, 1, 1, 2}, x -> {
                 x.points(1);
                 x.moves(0);
                 write(x, "m0");
             }),
-            new Place("four in a ring", 4, List.of(1230), 4, new int[] {1, 4, 2, 4}, new int[] {1, 1, 1, 1}, x -> {
-                x.moves(1230);
-                write(x, "x0; n5");
-            }),
-            new Place("all of four", 4, List.of(1230, 1023), 24, new int[] {1, 2, 3, 2, 4}, new int[] {1, 1, 2, 3, 3}, x -> {
-                x.back();
-                x.moves(1230);
-                x.moves(1023);
-                write(x, "m0123;x1;");
-            }),
-            new Place("all of five, all full", 5, List.of(12340, 10234, 1234), 120, new int[] {1, 2, 3, 2, 4, 6, 5},
-                new int[] {1, 1, 4, 4, 5, 5, 6}, Place::fill)
+            new Place("four in a ring", List.of(1230), 4, new int[] {1, 4, 2, 4}, new int[] {1, 1, 1, 1},
+                new int[] {0, 0, 0, 6, 4, 1, 1}, x -> {
+                    x.moves(1230);
+                    write(x, "x0; n5");
+                }),
+            new Place("all of four", List.of(1230, 1023), 24, new int[] {1, 2, 3, 2, 4}, new int[] {1, 1, 2, 3, 3},
+                new int[] {0, 1, 0, 9, 4, 2, 2}, x -> {
+                    x.back();
+                    x.moves(1230);
+                    x.moves(1023);
+                    write(x, "m0123;x1;");
+                }),
+            // the sorts are those of 01234, 02413, 03142, 04321, 12340
+            new Place("twenty, reckoned before", List.of(12340, 2413), 20, new int[] {1, 4, 4, 2, 5}, new int[] {1, 1, 1, 1, 4},
+                new int[] {1, 1, 0, 6, 5, 2, 3}, Place::reckon),
+            full()
         };
+    }
+
+    static Place full() {
+        return new Place("all of five, all full", List.of(12340, 10234, 1234), 120, new int[] {1, 2, 3, 2, 4, 6, 5},
+            new int[] {1, 1, 4, 4, 5, 5, 6}, new int[] {1, 1, 2, 80, 5, 3, 5}, Place::fill);
+    }
+
+    /** All is known when the call comes, behind other GENERATORS of more ELEMENTS and SORTS. */
+    private static void reckon(RootedClasses x) {
+        x.points(5);
+        x.moves(12340);
+        x.moves(10234);
+        x.turned(0, 2);
+        x.back();
+        x.moves(2413);
+        x.degree(5);
+        x.digest();
+        write(x, "n3;m12");
     }
 
     /** Three GENERATORS, five STATES with others lost, eighty bytes, each kind of refusal. */
