@@ -32,16 +32,20 @@ public final class EveryGroupTest {
 
         RootedClasses made() {
             RootedClasses x = new RootedClasses();
+            bring(x);
+            return x;
+        }
+
+        void bring(RootedClasses x) {
             x.points(points);
             for (int g : generators) {
                 x.moves(g);
             }
-            return x;
         }
     }
 
     public static void main(String[] args) {
-        int groups = 0;
+        List<Relay> groups = new ArrayList<>();
         for (int n = 1; n <= 5; n++) {
             List<Integer> all = new ArrayList<>();
             collect("", n, all);
@@ -53,7 +57,7 @@ public final class EveryGroupTest {
                 List<List<Integer>> next = new ArrayList<>();
                 for (List<Integer> generators : fresh) {
                     compare(n, generators);
-                    groups++;
+                    groups.add(new Relay(n, generators));
                     if (generators.size() == 3) {
                         continue;
                     }
@@ -69,7 +73,12 @@ public final class EveryGroupTest {
             }
         }
         // as many subgroups as there are of all moves of 1, 2, 3, 4 and 5 points
-        DUE.is("groups", groups, 1 + 2 + 6 + 30 + 156);
+        DUE.is("groups", groups.size(), 1 + 2 + 6 + 30 + 156);
+        for (Relay before : groups) {
+            for (Relay behind : groups) {
+                compareBehind(before, behind);
+            }
+        }
         DUE.end("EveryGroupTest");
     }
 
@@ -107,6 +116,24 @@ public final class EveryGroupTest {
         }
         int[] told = {0, 0, 0, 0, n, generators.size(), 1 + generators.size()};
         DUE.is(at + "digest", x.made().digest(), o.digest(told));
+    }
+
+    /** What was reckoned before leaves no trace in what is asked behind it, nor behind back(). */
+    private static void compareBehind(Relay before, Relay behind) {
+        RootedClasses x = before.made();
+        long first = x.digest();
+        behind.bring(x);
+        int count = behind.generators.size();
+        int states = Math.min(5, 2 + before.generators.size() + count);
+        int[] told = {0, 0, 0, 0, behind.points, count, states};
+        long due = Oracle.of(behind.points, behind.generators).digest(told);
+        DUE.is(behind.points + " " + behind.generators + " behind " + before.points + " " + before.generators, x.digest(), due);
+        if (before.generators.size() + 2 + count <= 5) {
+            for (int k = 0; k <= count; k++) {
+                x.back();
+            }
+            DUE.is(before.points + " " + before.generators + " again", x.digest(), first);
+        }
     }
 
     private static void compareElements(String at, Relay x, Oracle o) {
