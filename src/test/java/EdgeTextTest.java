@@ -14,6 +14,7 @@ public final class EdgeTextTest {
         emptyAndBlank();
         everyByteAtEachPlace();
         endsTooEarly();
+        oneFigure();
         figureOfN();
         figuresOfM();
         pointsByThen();
@@ -210,6 +211,18 @@ public final class EdgeTextTest {
                     faults(begun + " ", length + 1);
                     faults(begun + times(" ", 80 - length), 80);
                 }
+            }
+        }
+    }
+
+    // "Numbers have one figure but those of m": the second one can not stand there
+    private static void oneFigure() {
+        for (int first = 0; first <= 9; first++) {
+            for (int second = 0; second <= 9; second++) {
+                faults("x" + first + second + ";", 2);
+                faults("x" + first + " " + second + ";", 3);
+                faults("m3210;x" + first + second + ";", 8);
+                faults("n" + first + second + ";", first >= 1 && first <= 5 ? 2 : 1);
             }
         }
     }
